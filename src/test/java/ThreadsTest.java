@@ -71,7 +71,12 @@ public final class ThreadsTest {
         x.begin(0, 2, 31);
         Due.is("at after begin", x.at(0), 1);
         Due.known(x, 0, 0, 0, 0, 0);
-        Due.is("other threads are idle", x.at(1) + x.at(2) + x.at(3), 0);
+        Due.whole(x, 1, 1, 3, 10, 1);
+        Due.whole(x, 1, 0, 2, 8, 1);
+        Due.known(x, 1, 1, 2, 3, 0);
+        x.begin(1, 0, 0);
+        Due.known(x, 1, 0, 0, 0, 0);
+        Due.is("other threads are idle", x.at(2) + x.at(3), 0);
     }
 
     private static void beginThrows() {
