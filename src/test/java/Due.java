@@ -18,6 +18,14 @@ final class Due {
         is(what, got ? 1 : 0, want ? 1 : 0);
     }
 
+    static void same(String what, String got, String want) {
+        compared++;
+        if (!got.equals(want)) {
+            wrong++;
+            System.out.println(what + " there is\n" + got + "due is\n" + want);
+        }
+    }
+
     static void thrown(String what, Class<? extends RuntimeException> want, Runnable call) {
         compared++;
         Class<?> got = null;

@@ -31,7 +31,8 @@ public final class FaceTest {
                 seen.add(f.getName());
             }
         }
-        Due.is("fields seen: " + seen, seen.equals(Set.of("NONE", "FALSE", "TRUE", "NOROOM")), true);
+        Set<String> want = Set.of("NONE", "FALSE", "TRUE", "NOROOM");
+        Due.is("fields seen: " + seen, seen.equals(want), true);
     }
 
     private static void theClass() {

@@ -3,7 +3,8 @@ import java.util.NoSuchElementException;
 /** Promises 1 to 8: a new object, and what is asked of a thread. */
 public final class ThreadsTest {
     /** START, HEAD, two or three steps for each of 19 or 20 blocks, CHECK, DO, END. */
-    private static final int[] STEPS_WITHOUT_ROOM = {2 + 2 * 19 + 3, 2 + 3 * 19 + 3, 2 + 2 * 20 + 3};
+    private static final int[] STEPS_WITHOUT_ROOM = {
+        2 + 2 * 19 + 3, 2 + 3 * 19 + 3, 2 + 2 * 20 + 3};
     private static final int[] NO_THREADS = {-1, 4, 5, Integer.MAX_VALUE, Integer.MIN_VALUE};
 
     public static void main(String[] args) {
