@@ -8,15 +8,24 @@ import java.util.TreeSet;
 /** The public face: what the document lists, and no other member that can be seen. */
 public final class FaceTest {
     private static final Set<String> METHODS = Set.of(
-            "void begin(int,int,int)", "int step(int)", "int finish(int)", "int result(int)",
-            "int at(int)", "int known(int,int)", "int says(int,int)", "boolean advance()",
-            "int scan(int)", "int block(int,int)", "int size()", "boolean has(int)",
-            "int faults()", "int epoch()");
+            "void begin(int,int,int) IndexOutOfBoundsException IllegalArgumentException"
+                    + " IllegalStateException",
+            "int step(int) IndexOutOfBoundsException IllegalStateException",
+            "int finish(int) IndexOutOfBoundsException IllegalStateException",
+            "int result(int) IndexOutOfBoundsException NoSuchElementException",
+            "int at(int) IndexOutOfBoundsException",
+            "int known(int,int) IndexOutOfBoundsException",
+            "int says(int,int) IndexOutOfBoundsException",
+            "boolean advance() UnsupportedOperationException",
+            "int scan(int) IndexOutOfBoundsException UnsupportedOperationException",
+            "int block(int,int) IndexOutOfBoundsException",
+            "int size()", "boolean has(int)", "int faults()", "int epoch()");
 
     public static void main(String[] args) {
         constants();
         theClass();
         methods();
+        classesInside();
         Due.end();
     }
 
@@ -28,10 +37,11 @@ public final class FaceTest {
         Set<String> seen = new TreeSet<>();
         for (Field f : SteppedList.class.getDeclaredFields()) {
             if (!Modifier.isPrivate(f.getModifiers())) {
-                seen.add(f.getName());
+                seen.add(Modifier.toString(f.getModifiers()) + " " + f.getName());
             }
         }
-        Set<String> want = Set.of("NONE", "FALSE", "TRUE", "NOROOM");
+        Set<String> want = Set.of("public static final NONE", "public static final FALSE",
+                "public static final TRUE", "public static final NOROOM");
         Due.is("fields seen: " + seen, seen.equals(want), true);
     }
 
@@ -41,6 +51,8 @@ public final class FaceTest {
         Constructor<?>[] all = SteppedList.class.getDeclaredConstructors();
         Due.is("constructors", all.length, 1);
         Due.is("public constructor", Modifier.isPublic(all[0].getModifiers()), true);
+        Due.is("constructor with a scheme alone", all[0].getParameterCount(), 1);
+        Due.is("constructor that throws", all[0].getExceptionTypes().length, 0);
     }
 
     private static void methods() {
@@ -51,6 +63,7 @@ public final class FaceTest {
                 hidden.add(m.getName());
             } else {
                 seen.add(signature(m));
+                Due.is(m + " is public", m.getModifiers(), Modifier.PUBLIC);
             }
         }
         Due.is("methods seen: " + seen, seen.equals(METHODS), true);
@@ -65,6 +78,18 @@ public final class FaceTest {
         for (int i = 0; i < m.getParameterCount(); i++) {
             s.append(i == 0 ? "" : ",").append(m.getParameterTypes()[i]);
         }
-        return s.append(")").toString();
+        s.append(")");
+        for (Class<?> thrown : m.getExceptionTypes()) {
+            s.append(" ").append(thrown.getSimpleName());
+        }
+        return s.toString();
+    }
+
+    private static void classesInside() {
+        for (Class<?> inside : SteppedList.class.getDeclaredClasses()) {
+            int m = inside.getModifiers();
+            Due.is(inside + " is static", Modifier.isStatic(m), true);
+            Due.is(inside + " is hidden", Modifier.isPublic(m) || Modifier.isProtected(m), false);
+        }
     }
 }
